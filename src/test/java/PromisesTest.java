@@ -26,9 +26,11 @@ public final class PromisesTest {
         turnThatCannotBe();
         turnOfCrookedTriangles();
         improve();
+        improveTheFirstEdge();
         improveAgainAndAgain();
         faultOrder();
         faultOfPairs();
+        smallestTriangles();
         culprit();
         coversAndWho();
         coversEachEdgeOnce();
@@ -40,6 +42,7 @@ public final class PromisesTest {
         count();
         countOfPieces();
         refusedCallsChangeNothing();
+        fullSheet();
         System.out.println(checks - wrong + " of " + checks + " answers are as due");
         if (wrong != 0) {
             System.exit(1);
@@ -348,6 +351,11 @@ public final class PromisesTest {
         flat.triangle(0, 2, 3);
         due("turn that makes a flat one", false, flat.turn(0, 2));
 
+        TriangleSheet flatToo = withPoints(0, 0, 50, 50, 0, 100, 100, 0);
+        flatToo.triangle(0, 1, 2);
+        flatToo.triangle(1, 0, 3);
+        due("turn that makes the other one flat", false, flatToo.turn(0, 0));
+
         TriangleSheet same = withPoints(0, 0, 100, 0, 0, 100);
         same.triangle(0, 1, 2);
         same.triangle(1, 0, 2);
@@ -394,15 +402,55 @@ public final class PromisesTest {
         dueThrow("improve(least)", ARGUMENT, () -> s.improve(LEAST));
         dueThrow("improve(most)", ARGUMENT, () -> s.improve(MOST));
 
-        TriangleSheet dart = withPoints(0, 0, 100, 0, 20, 20, 0, 100);
-        dart.triangle(0, 1, 2);
-        dart.triangle(0, 2, 3);
-        dart.move(2, 10, 10);
-        due("a dart's edge", false, dart.turn(0, 2));
-        due("improve of what cannot be turned", 0, dart.improve(500));
-
         TriangleSheet round = square(0, 64);
         due("four on a circle are good", 0, round.improve(500));
+    }
+
+    /** 0, 1 and 2, 3 lie as two flat squares, each with its longer way across. */
+    private static TriangleSheet twoFlatSquares() {
+        TriangleSheet s = withPoints(0, 50, 100, 40, 200, 50, 100, 60, 0, 250, 100, 240, 200, 250, 100, 260);
+        s.triangle(0, 1, 2);
+        s.triangle(2, 3, 0);
+        s.triangle(4, 5, 6);
+        s.triangle(6, 7, 4);
+        return s;
+    }
+
+    private static void improveTheFirstEdge() {
+        TriangleSheet s = twoFlatSquares();
+        due("count(7) of two", 4, s.count(7));
+        due("improve(1) of two", 1, s.improve(1));
+        dueCorners("improve(1) of two", s, 0, 1, 2, 3);
+        dueCorners("improve(1) of two", s, 2, 4, 5, 6);
+        due("improve(1) of the other", 1, s.improve(1));
+        dueCorners("improve(1) of the other", s, 2, 5, 6, 7);
+        due("improve(1) of none", 0, s.improve(1));
+        TriangleSheet both = twoFlatSquares();
+        due("improve(2) of two", 2, both.improve(2));
+
+        // Both of triangle 0's upper edges are bad: the one with the lesser k is turned.
+        TriangleSheet edges = withPoints(100, 100, 200, 100, 150, 300, 220, 200, 80, 200);
+        edges.triangle(0, 1, 2);
+        edges.triangle(2, 1, 3);
+        edges.triangle(0, 2, 4);
+        due("its edge 1", false, edges.isGood(0, 1));
+        due("its edge 2", false, edges.isGood(0, 2));
+        due("improve(1) of its edges", 1, edges.improve(1));
+        dueCorners("improve(1) of its edges", edges, 0, 0, 1, 3);
+        dueCorners("improve(1) of its edges", edges, 1, 3, 2, 0);
+        dueCorners("improve(1) of its edges", edges, 2, 0, 2, 4);
+
+        // An edge that is bad but cannot be turned is passed over for a later one.
+        TriangleSheet passed = withPoints(0, 0, 64, 0, 0, 64, 500, 500, 300, 50, 400, 40, 500, 50, 400, 60);
+        passed.triangle(1, 0, 2);
+        passed.triangle(0, 1, 3);
+        passed.triangle(4, 5, 6);
+        passed.triangle(6, 7, 4);
+        due("the first edge is bad", false, passed.isGood(0, 0));
+        due("improve(500) past the first edge", 1, passed.improve(500));
+        dueCorners("improve(500) past the first edge", passed, 0, 1, 0, 2);
+        dueCorners("improve(500) past the first edge", passed, 2, 5, 6, 7);
+        due("the first edge is bad still", 2, passed.count(7));
     }
 
     private static void improveAgainAndAgain() {
@@ -508,6 +556,8 @@ public final class PromisesTest {
         duePair("a corner shared, side by side", 0, 100, 100, 80, 300, 50, 300);
         duePair("a corner shared, edge in line behind it", 0, 100, 100, 50, 100, 90, 90);
         duePair("a corner within an edge", 2, 150, 100, 140, 50, 160, 50);
+        duePair("a corner within the upright edge", 2, 100, 150, 50, 160, 50, 140);
+        duePair("a corner just off the upright edge", 0, 99, 150, 50, 160, 50, 140);
         duePair("a corner within the slanted edge", 2, 150, 150, 300, 150, 300, 300);
         duePair("a corner just off the slanted edge", 0, 151, 150, 300, 150, 300, 300);
         duePair("edges in one line that overlap", 2, 150, 100, 120, 50, 250, 100);
@@ -517,6 +567,26 @@ public final class PromisesTest {
         duePair("edges that cross, no corner in the other", 2, 90, 120, 250, 110, 250, 120);
         duePair("a star of six", 2, 90, 170, 140, 80, 180, 180);
         duePair("a corner put in by one place", 2, 199, 100, 300, 100, 300, 101);
+    }
+
+    private static void smallestTriangles() {
+        TriangleSheet s = withPoints(0, 0, 1, 0, 1, 1, 0, 1);
+        s.triangle(0, 1, 2);
+        s.triangle(0, 2, 3);
+        due("fault() of the smallest square", 0, s.fault());
+        due("painted(3) of the smallest square", 2, s.painted(3));
+        due("turn in the smallest square", true, s.turn(0, 2));
+        due("fault() of the smallest square turned", 0, s.fault());
+
+        TriangleSheet parted = withPoints(0, 0, 2, 1, 1, 2);
+        parted.triangle(0, 1, 2);
+        due("part at the only place within", 3, parted.part(0, 1, 1));
+        due("fault() of the smallest parted one", 0, parted.fault());
+
+        TriangleSheet sliver = withPoints(0, 0, 511, 510, 510, 509);
+        sliver.triangle(0, 2, 1);
+        due("fault() of a sliver of turn 1", 0, sliver.fault());
+        due("painted(3) of a sliver of turn 1", 1, sliver.painted(3));
     }
 
     private static void culprit() {
@@ -792,5 +862,39 @@ public final class PromisesTest {
         dueCorners("after refusals", s, 2, 1, 0, 2);
         due("culprit(0) after refusals", 2, s.culprit(0));
         due("painted(3) after refusals", 8192, s.painted(3));
+    }
+
+    /** 60 points and 60 triangles: what goes once round the sheet ends there. */
+    private static void fullSheet() {
+        TriangleSheet s = new TriangleSheet();
+        for (int i = 0; i < 30; i++) {
+            s.point(16 * i, 100);
+            s.point(16 * i, 200);
+        }
+        for (int i = 0; i < 29; i++) {
+            s.triangle(2 * i, 2 * i + 2, 2 * i + 1);
+            s.triangle(2 * i + 1, 2 * i + 2, 2 * i + 3);
+        }
+        dueCounts("a band", s, 60, 58, 58, 60, 117, 60, 1, 0);
+        s.triangle(0, 1, 2);
+        s.triangle(58, 57, 59);
+        dueCounts("a full sheet", s, 60, 60, 60, 60, 117, 56, 1);
+        due("fault() of a full sheet", 1, s.fault());
+        due("culprit(0) of a full sheet", 58, s.culprit(0));
+        due("who of none in a full sheet", NONE, s.who(31, 31));
+        due("covers of none in a full sheet", 0, s.covers(31, 31));
+        due("locate of none in a full sheet", NONE, s.locate(511, 511));
+        due("beside in a full sheet", NONE, s.beside(2, 0));
+        due("painted(0) of a full sheet", 29 * 7, s.painted(0));
+        due("painted(3) of a full sheet", 58 * 1600, s.painted(3));
+        dueThrow("take(60) of a full sheet", INDEX, () -> s.take(60));
+        due("improve(500) of a full sheet", 0, s.improve(500));
+        s.take(59);
+        s.take(58);
+        due("fault() of the band", 0, s.fault());
+        s.take(57);
+        due("who where the last one was", NONE, s.who(28, 12));
+        due("locate where the last one was", NONE, s.locate(464, 200));
+        due("who in the last but one", 56, s.who(28, 6));
     }
 }
